@@ -78,10 +78,10 @@ public final class LineKeeper {
     private final Run theRun;
     private int readFault;
     private int readPlace = NONE;
-    private Rewriter rewriter;
-    private Dropper dropper;
-    private Melter melter;
-    private Sharer sharer;
+    private final Rewriter rewriter = new Rewriter();
+    private final Dropper dropper = new Dropper(flow);
+    private final Melter melter = new Melter(flow);
+    private final Sharer sharer = new Sharer(flow);
     private Beside pair;
 
     public LineKeeper() {
@@ -178,6 +178,7 @@ public final class LineKeeper {
         if (code == null || k < 0 || k > code.count || !code.hasName(f, name) || what < 0 || what > 4) {
             return NONE;
         }
+        tellings.refresh(r, code);
         int id = tellings.idAt(r, code, k, f, name);
         switch (what) {
             case 0: return tellings.whereOf(code, id);
@@ -229,6 +230,7 @@ public final class LineKeeper {
         if (!theRun.find(k) || name < 0 || name >= theRun.foundNames()) {
             return NONE;
         }
+        tellings.refresh(theRun.foundSource(), theRun.foundCode());
         int where = tellings.whereOf(theRun.foundCode(), theRun.foundId(tellings, name));
         return where >= GONE ? where : 1;
     }
@@ -237,6 +239,7 @@ public final class LineKeeper {
         if (!theRun.find(k) || name < 0 || name >= theRun.foundNames()) {
             return 0;
         }
+        tellings.refresh(theRun.foundSource(), theRun.foundCode());
         return theRun.foundValue(tellings, theRun.foundId(tellings, name));
     }
 
@@ -268,6 +271,9 @@ public final class LineKeeper {
         }
         if (pair == null) {
             pair = new Beside(codes, made);
+        }
+        for (int i = 0; i < routines; i++) {
+            tellings.refresh(i, codeOf(i));
         }
         pair.torn.begin(r, a, b, c, d);
         pair.plain.begin(r, a, b, c, d);
@@ -311,38 +317,14 @@ public final class LineKeeper {
     }
 
     private int tear(int kind, int r, Code code) {
-        if (rewriter == null) {
-            rewriter = new Rewriter();
-        }
         switch (kind) {
             case 0: return rewriter.fold(code);
-            case 1: return drop(code);
+            case 1: return dropper.drop(code);
             case 2: return rewriter.move(code);
             case 3: return rewriter.alike(code);
-            case 4: return melt(r, code);
-            default: return share(code);
+            case 4: return melter.melt(codes, routines, r, code);
+            default: return sharer.share(code);
         }
-    }
-
-    private int drop(Code code) {
-        if (dropper == null) {
-            dropper = new Dropper(flow);
-        }
-        return dropper.drop(code);
-    }
-
-    private int melt(int r, Code code) {
-        if (melter == null) {
-            melter = new Melter(flow);
-        }
-        return melter.melt(codes, routines, r, code);
-    }
-
-    private int share(Code code) {
-        if (sharer == null) {
-            sharer = new Sharer(flow);
-        }
-        return sharer.share(code);
     }
 
     private static int at(int[] row, int i) {
@@ -424,6 +406,7 @@ public final class LineKeeper {
         final int[] frameLine = new int[MAX_FRAMES];
         final int[] frameNames = new int[MAX_FRAMES];
         final int[] home = new int[MAX_FRAMES * MAX_NAMES];
+        private final int[] lifted = new int[ROW];
 
         void empty(int routine) {
             count = 0;
@@ -451,7 +434,7 @@ public final class LineKeeper {
 
         /** No ITEM has the kind NONE, so that one beyond the code is none of any kind. */
         int kindAt(int k) {
-            return k >= 0 && k < count ? get(k, KIND) : NONE;
+            return k >= 0 && k < count && k * ROW < cells.length ? cells[k * ROW] : NONE;
         }
 
         int homeOf(int f, int name) {
@@ -471,6 +454,30 @@ public final class LineKeeper {
                 cells = Arrays.copyOf(cells, Math.max(rows * ROW, twice));
             }
             return true;
+        }
+
+        /** An ITEM comes behind the last; those that no code may have are counted, not kept. */
+        void append(int kind, int x, int y) {
+            int i = count * ROW;
+            count++;
+            if (i + ROW > cells.length && count <= MAX_ITEMS) {
+                cells = Arrays.copyOf(cells, Math.min(MAX_ITEMS * ROW, 2 * cells.length));
+            }
+            if (i >= 0 && i + ROW <= cells.length) {
+                Arrays.fill(cells, i, i + ROW, 0);
+                cells[i + KIND] = kind;
+                cells[i + X] = x;
+                cells[i + Y] = y;
+            }
+        }
+
+        /** Operand i of the last ITEM. */
+        void lastOperand(int i, int kind, int number) {
+            int cell = (count - 1) * ROW + A_KIND + 2 * i;
+            if (i >= 0 && i < MAX_PARAMS && cell >= 0 && cell + 1 < cells.length) {
+                cells[cell] = kind;
+                cells[cell + 1] = number;
+            }
         }
 
         /** Makes n empty rows, the first of them the new row k. */
@@ -493,13 +500,12 @@ public final class LineKeeper {
 
         /** The ITEM goes right ahead of another one that stands ahead of it. */
         void liftRow(int from, int to) {
-            if (to < 0 || to > from || from >= count || !openRows(to, 1)) {
+            if (to < 0 || to > from || from >= count || count * ROW > cells.length) {
                 return;
             }
-            for (int cell = 0; cell < ROW; cell++) {
-                set(to, cell, get(from + 1, cell));
-            }
-            removeRow(from + 1);
+            System.arraycopy(cells, from * ROW, lifted, 0, ROW);
+            System.arraycopy(cells, to * ROW, cells, (to + 1) * ROW, (from - to) * ROW);
+            System.arraycopy(lifted, 0, cells, to * ROW, ROW);
         }
 
         void copyFrom(Code other) {
@@ -649,7 +655,7 @@ public final class LineKeeper {
         }
     }
 
-    /** The tokens of a tape, one at a time. A sign's kind is its byte; other kinds lie beyond all bytes. */
+    /** The tokens of a tape. A sign's kind is its byte; other kinds lie beyond all bytes. */
     private static final class Tokens {
         static final int NAME = 256;
         static final int NUMBER = 257;
@@ -671,62 +677,68 @@ public final class LineKeeper {
             ('w' - 96) << 20 | ('h' - 96) << 15 | ('i' - 96) << 10 | ('l' - 96) << 5 | ('e' - 96)};
         static final char[] SIGNS = {'(', ')', '{', '}', ',', ';', '=', '<', '+', '-', '*'};
 
-        byte[] bytes;
-        int length;
-        int after;
+        final int[] kinds = new int[MAX_TAPE + 1];
+        final int[] numbers = new int[MAX_TAPE + 1];
+        final int[] places = new int[MAX_TAPE + 1];
+        /** The token that is looked at: its index, kind, number or key, and place. */
+        int index;
         int kind;
         int number;
         int place;
 
-        void open(byte[] tape, int taped) {
-            bytes = tape;
-            length = tape == null ? 0 : Math.max(0, Math.min(taped, tape.length));
-            after = 0;
+        /** Stands at the first token then. No text goes on behind a bad one, so none is looked for there. */
+        void scan(byte[] tape, int taped) {
+            int length = Math.max(0, Math.min(taped, tape.length));
+            int n = 0;
+            int i = 0;
+            kind = TAPE_END;
+            while (i < length && kind != BAD) {
+                if (tape[i] == ' ' || tape[i] == '\n') {
+                    i++;
+                } else {
+                    place = i;
+                    i = scanOne(tape, length, i);
+                    keep(n);
+                    n++;
+                }
+            }
+            if (kind != BAD) {
+                kind = TAPE_END;
+                place = length;
+                keep(n);
+            }
+            index = -1;
             next();
         }
 
-        private int byteAt(int i) {
-            return bytes != null && i >= 0 && i < length && i < bytes.length ? bytes[i] & 255 : NONE;
+        private void keep(int n) {
+            put(kinds, n, kind);
+            put(numbers, n, number);
+            put(places, n, place);
         }
 
-        private int skipBlanks(int from) {
-            int i = from;
-            while (i < length && (byteAt(i) == ' ' || byteAt(i) == '\n')) {
-                i++;
-            }
-            return i;
-        }
-
-        /** Whether the byte of a sign is the next token behind this one. */
-        boolean nextIs(char sign) {
-            return byteAt(skipBlanks(after)) == sign;
-        }
-
-        void next() {
-            place = skipBlanks(after);
-            after = place + 1;
+        /** Takes the token at i: what stands behind it. */
+        private int scanOne(byte[] tape, int length, int i) {
+            int end = i;
             number = 0;
-            int first = byteAt(place);
-            if (first == NONE) {
-                kind = TAPE_END;
-                after = place;
-            } else if (isLetter(first)) {
-                takeLetters();
-            } else if (isDigit(first)) {
-                takeDigits();
-            } else {
-                kind = isSign(first) ? first : BAD;
+            while (end < length && tape[end] >= 'a' && tape[end] <= 'z') {
+                number = number << 5 | (tape[end] - 96);
+                end++;
             }
-        }
-
-        private void takeLetters() {
-            int i = place;
-            while (i < length && isLetter(byteAt(i))) {
-                number = number << 5 | (byteAt(i) - 96);
-                i++;
+            if (end > i) {
+                kind = end - i > MAX_LETTERS ? BAD : wordKind();
+                return end;
             }
-            after = i;
-            kind = i - place > MAX_LETTERS ? BAD : wordKind();
+            while (end < length && tape[end] >= '0' && tape[end] <= '9') {
+                number = number * 10 + (tape[end] - '0');
+                end++;
+            }
+            if (end > i) {
+                kind = end - i > MAX_DIGITS ? BAD : NUMBER;
+                return end;
+            }
+            kind = isSign(tape[i]) ? tape[i] : BAD;
+            return i + 1;
         }
 
         private int wordKind() {
@@ -738,24 +750,6 @@ public final class LineKeeper {
             return NAME;
         }
 
-        private void takeDigits() {
-            int i = place;
-            while (i < length && isDigit(byteAt(i))) {
-                number = number * 10 + (byteAt(i) - '0');
-                i++;
-            }
-            after = i;
-            kind = i - place > MAX_DIGITS ? BAD : NUMBER;
-        }
-
-        private static boolean isLetter(int one) {
-            return one >= 'a' && one <= 'z';
-        }
-
-        private static boolean isDigit(int one) {
-            return one >= '0' && one <= '9';
-        }
-
         private static boolean isSign(int one) {
             for (int i = 0; i < SIGNS.length; i++) {
                 if (SIGNS[i] == one) {
@@ -763,6 +757,21 @@ public final class LineKeeper {
                 }
             }
             return false;
+        }
+
+        /** The last token, the end or a bad one, stays for good. */
+        void next() {
+            if (index + 1 < kinds.length && index + 1 < numbers.length && index + 1 < places.length
+                && (index < 0 || kind != TAPE_END && kind != BAD)) {
+                index++;
+                kind = kinds[index];
+                number = numbers[index];
+                place = places[index];
+            }
+        }
+
+        boolean nextIs(char sign) {
+            return kind != TAPE_END && kind != BAD && at(kinds, index + 1) == sign;
         }
     }
 
@@ -787,7 +796,6 @@ public final class LineKeeper {
         int fault;
         int place;
         int statements;
-        int items;
         int labels;
         int news;
         final int[] nameKey = new int[MAX_NAMES];
@@ -817,20 +825,15 @@ public final class LineKeeper {
             routines = 0;
             calls = 0;
             statements = 0;
-            tokens.open(tape, taped);
-            if (!text()) {
-                return false;
+            tokens.scan(tape, taped);
+            for (int i = 0; i < MAX_TAPE && tokens.kind != Tokens.TAPE_END; i++) {
+                int where = tokens.place;
+                if (!header() || !block(1)) {
+                    return false;
+                }
+                closeRoutine(where);
             }
-            for (int i = 0; i < calls; i++) {
-                checkCall(i);
-            }
-            if (fault != 0) {
-                return false;
-            }
-            for (int i = 0; i < routines && i < spare.length; i++) {
-                resolveCalls(spare[i]);
-            }
-            return true;
+            return settleCalls();
         }
 
         private boolean refuse() {
@@ -855,58 +858,43 @@ public final class LineKeeper {
             return true;
         }
 
-        private boolean text() {
-            for (int i = 0; i < MAX_TAPE && tokens.kind != Tokens.TAPE_END; i++) {
-                if (!oneRoutine()) {
-                    return false;
-                }
-            }
-            return true;
-        }
-
-        private boolean oneRoutine() {
+        private boolean header() {
             if (tokens.kind != Tokens.NAME) {
                 return refuse();
             }
-            int at = tokens.place;
-            openRoutine(tokens.number, at);
+            openRoutine(tokens.number);
             tokens.next();
-            if (!taken('(') || !parameters() || !taken(')') || !block(1)) {
-                return false;
-            }
-            emit(RETURN, 0, 0);
-            operand(0, CONST, 0);
-            closeRoutine(at);
-            return true;
+            return taken('(') && parameters() && taken(')');
         }
 
-        private void openRoutine(int key, int at) {
+        private void openRoutine(int key) {
             if (routineOf(key) != NONE) {
-                note(2, at);
+                note(2, tokens.place);
             }
             if (routines >= MAX_ROUTINES) {
-                note(5, at);
+                note(5, tokens.place);
             }
-            int i = Math.min(routines, MAX_ROUTINES);
+            int i = Math.max(0, Math.min(routines, spare.length - 1));
             code = spare[i];
             code.empty(i);
             put(routineKey, routines, key);
             put(routineParams, routines, 0);
             routines = Math.min(routines + 1, MAX_LISTED);
-            items = 0;
             labels = 0;
             news = 0;
         }
 
-        private void closeRoutine(int at) {
-            if (items > MAX_MADE) {
-                note(5, at);
+        private void closeRoutine(int where) {
+            code.append(RETURN, 0, 0);
+            code.lastOperand(0, CONST, 0);
+            if (code.count > MAX_MADE) {
+                note(5, where);
             }
             put(code.frameNames, 0, code.names);
             for (int name = 0; name < code.names; name++) {
                 put(code.home, name, name);
             }
-            for (int k = 0; k < code.count; k++) {
+            for (int k = 0; k < code.count && k < MAX_MADE; k++) {
                 numberNew(k);
             }
         }
@@ -940,21 +928,21 @@ public final class LineKeeper {
             return refuse();
         }
 
-        private void parameter(int number) {
+        private void parameter(int count) {
             if (nameIndex(tokens.number) != NONE) {
                 note(2, tokens.place);
             }
-            if (number > MAX_PARAMS) {
+            if (count > MAX_PARAMS) {
                 note(5, tokens.place);
             }
-            register(tokens.number);
-            put(routineParams, routines - 1, number);
-            code.params = Math.min(number, MAX_PARAMS);
+            register();
+            put(routineParams, routines - 1, count);
+            code.params = Math.min(count, MAX_PARAMS);
         }
 
         private int nameIndex(int key) {
-            for (int i = 0; i < code.names; i++) {
-                if (at(nameKey, i) == key) {
+            for (int i = 0; i < code.names && i < nameKey.length; i++) {
+                if (nameKey[i] == key) {
                     return i;
                 }
             }
@@ -962,8 +950,8 @@ public final class LineKeeper {
         }
 
         /** The REGISTER of the name at this token. */
-        private int register(int key) {
-            int i = nameIndex(key);
+        private int register() {
+            int i = nameIndex(tokens.number);
             if (i != NONE) {
                 return i;
             }
@@ -971,7 +959,7 @@ public final class LineKeeper {
                 note(5, tokens.place);
                 return 0;
             }
-            put(nameKey, code.names, key);
+            put(nameKey, code.names, tokens.number);
             code.names++;
             return code.names - 1;
         }
@@ -1007,31 +995,30 @@ public final class LineKeeper {
         }
 
         private boolean assignment() {
-            emit(LINE, statements, 0);
-            int r = register(tokens.number);
+            code.append(LINE, statements, 0);
+            int r = register();
             tokens.next();
             if (!taken('=')) {
                 return false;
             }
-            if (tokens.kind == Tokens.NAME && tokens.nextIs('(')) {
-                if (!call(r)) {
-                    return false;
-                }
-            } else {
-                if (!expression(1) || !taken(';')) {
-                    return false;
-                }
-                emit(COPY, r, 0);
-                operand(0, partKind, part);
+            boolean good = tokens.kind == Tokens.NAME && tokens.nextIs('(') ? call(r) : setting(r);
+            code.append(BIND, r, 0);
+            code.setWhere(code.count - 1, REG, r);
+            return good;
+        }
+
+        private boolean setting(int r) {
+            if (!expression(1) || !taken(';')) {
+                return false;
             }
-            emit(BIND, r, 0);
-            code.setWhere(lastRow(), REG, r);
+            code.append(COPY, r, 0);
+            code.lastOperand(0, partKind, part);
             return true;
         }
 
         private boolean call(int r) {
             int key = tokens.number;
-            int at = tokens.place;
+            int where = tokens.place;
             tokens.next();
             tokens.next();
             int n = 0;
@@ -1051,27 +1038,27 @@ public final class LineKeeper {
             if (!taken(')') || !taken(';')) {
                 return false;
             }
-            listCall(key, at, n);
-            emit(CALL, r, key);
+            listCall(key, where, n);
+            code.append(CALL, r, key);
             for (int i = 0; i < MAX_PARAMS; i++) {
-                operand(i, at(arguments, 2 * i), at(arguments, 2 * i + 1));
+                code.lastOperand(i, at(arguments, 2 * i), at(arguments, 2 * i + 1));
             }
             return true;
         }
 
         private boolean single(int kind) {
-            emit(LINE, statements, 0);
+            code.append(LINE, statements, 0);
             tokens.next();
             if (!expression(1) || !taken(';')) {
                 return false;
             }
-            emit(kind, 0, 0);
-            operand(0, partKind, part);
+            code.append(kind, 0, 0);
+            code.lastOperand(0, partKind, part);
             return true;
         }
 
         private boolean choice(int depth) {
-            emit(LINE, statements, 0);
+            code.append(LINE, statements, 0);
             tokens.next();
             if (!expression(1)) {
                 return false;
@@ -1081,24 +1068,24 @@ public final class LineKeeper {
                 return false;
             }
             if (tokens.kind != Tokens.WORD_ELSE) {
-                emit(LABEL, first, 0);
+                code.append(LABEL, first, 0);
                 return true;
             }
             int other = newLabel();
-            emit(JUMP, other, 0);
-            emit(LABEL, first, 0);
+            code.append(JUMP, other, 0);
+            code.append(LABEL, first, 0);
             tokens.next();
             if (!block(depth + 1)) {
                 return false;
             }
-            emit(LABEL, other, 0);
+            code.append(LABEL, other, 0);
             return true;
         }
 
         private boolean ring(int depth) {
             int first = newLabel();
-            emit(LABEL, first, 0);
-            emit(LINE, statements, 0);
+            code.append(LABEL, first, 0);
+            code.append(LINE, statements, 0);
             tokens.next();
             if (!expression(1)) {
                 return false;
@@ -1107,8 +1094,8 @@ public final class LineKeeper {
             if (!block(depth + 1)) {
                 return false;
             }
-            emit(JUMP, first, 0);
-            emit(LABEL, other, 0);
+            code.append(JUMP, first, 0);
+            code.append(LABEL, other, 0);
             return true;
         }
 
@@ -1119,8 +1106,8 @@ public final class LineKeeper {
 
         private int zeroToNew() {
             int label = newLabel();
-            emit(ZERO, label, 0);
-            operand(0, partKind, part);
+            code.append(ZERO, label, 0);
+            code.lastOperand(0, partKind, part);
             return label;
         }
 
@@ -1200,7 +1187,7 @@ public final class LineKeeper {
                 part = tokens.number;
             } else if (tokens.kind == Tokens.NAME) {
                 partKind = REG;
-                part = register(tokens.number);
+                part = register();
             } else {
                 return refuse();
             }
@@ -1212,35 +1199,16 @@ public final class LineKeeper {
         private void join(int kind, int leftKind, int left) {
             int r = NEW_BASE + news;
             news++;
-            emit(kind, r, 0);
-            operand(0, leftKind, left);
-            operand(1, partKind, part);
+            code.append(kind, r, 0);
+            code.lastOperand(0, leftKind, left);
+            code.lastOperand(1, partKind, part);
             partKind = REG;
             part = r;
         }
 
-        /** ITEMS beyond the limit are counted, not kept. */
-        private void emit(int kind, int x, int y) {
-            items++;
-            if (items <= MAX_MADE && code.openRows(code.count, 1)) {
-                code.set(lastRow(), KIND, kind);
-                code.set(lastRow(), X, x);
-                code.set(lastRow(), Y, y);
-            }
-        }
-
-        private int lastRow() {
-            return items <= MAX_MADE ? code.count - 1 : NONE;
-        }
-
-        private void operand(int i, int kind, int number) {
-            code.set(lastRow(), A_KIND + 2 * i, kind);
-            code.set(lastRow(), A + 2 * i, number);
-        }
-
-        private void listCall(int key, int at, int n) {
+        private void listCall(int key, int where, int n) {
             put(callKey, calls, key);
-            put(callPlace, calls, at);
+            put(callPlace, calls, where);
             put(callCount, calls, n);
             calls = Math.min(calls + 1, MAX_LISTED);
         }
@@ -1254,21 +1222,25 @@ public final class LineKeeper {
             return NONE;
         }
 
-        private void checkCall(int i) {
-            int r = routineOf(at(callKey, i));
-            if (r == NONE) {
-                note(3, at(callPlace, i));
-            } else if (at(routineParams, r) != at(callCount, i)) {
-                note(4, at(callPlace, i));
-            }
-        }
-
-        private void resolveCalls(Code one) {
-            for (int k = 0; one != null && k < one.count; k++) {
-                if (one.get(k, KIND) == CALL) {
-                    one.set(k, Y, routineOf(one.get(k, Y)));
+        /** Calls may go to later routines, so that they are looked at when all are known. */
+        private boolean settleCalls() {
+            for (int i = 0; i < calls; i++) {
+                int r = routineOf(at(callKey, i));
+                if (r == NONE) {
+                    note(3, at(callPlace, i));
+                } else if (at(routineParams, r) != at(callCount, i)) {
+                    note(4, at(callPlace, i));
                 }
             }
+            for (int i = 0; fault == 0 && i < routines && i < spare.length; i++) {
+                Code one = spare[i];
+                for (int k = 0; one != null && k < one.count; k++) {
+                    if (one.get(k, KIND) == CALL) {
+                        one.set(k, Y, routineOf(one.get(k, Y)));
+                    }
+                }
+            }
+            return fault == 0;
         }
     }
 
@@ -1380,12 +1352,10 @@ public final class LineKeeper {
             put(fresh, r, 0);
         }
 
+        /** Of a code that was refreshed. */
         int idAt(int r, Code code, int k, int f, int name) {
             if (r < 0 || r >= tables.length || code == null) {
                 return NOT_THERE;
-            }
-            if (at(fresh, r) == 0) {
-                prepare(r, code);
             }
             int id = at(tables[r], k * code.frames * MAX_NAMES + f * MAX_NAMES + name);
             return id == 0 ? NOT_THERE : id;
@@ -1409,12 +1379,12 @@ public final class LineKeeper {
             return id >= PARAM_BASE && cell == A ? code.homeOf(0, id - PARAM_BASE) : 0;
         }
 
-        private void prepare(int r, Code code) {
-            width = code.frames * MAX_NAMES;
-            int size = (code.count + 1) * width;
-            if (r < 0 || r >= tables.length || r >= fresh.length || size < 0) {
+        void refresh(int r, Code code) {
+            if (code == null || r < 0 || r >= tables.length || r >= fresh.length || fresh[r] != 0) {
                 return;
             }
+            width = code.frames * MAX_NAMES;
+            int size = Math.max(0, (code.count + 1) * width);
             if (tables[r] == null || tables[r].length < size) {
                 tables[r] = new int[size + size / 4];
             }
@@ -1857,7 +1827,7 @@ public final class LineKeeper {
         }
 
         private boolean needsNought(int r) {
-            if (!flow.lives(0, r)) {
+            if (!has(flow.live, 0, r)) {
                 return false;
             }
             for (int i = 0; i < guest.params; i++) {
@@ -2346,6 +2316,11 @@ public final class LineKeeper {
             }
         }
 
+        /** Whose code the call of the found frame goes by. */
+        int foundSource() {
+            return at(routineAt, foundCall);
+        }
+
         Code foundCode() {
             return codeAt(at(routineAt, foundCall));
         }
@@ -2366,7 +2341,7 @@ public final class LineKeeper {
 
         /** What is told of a name of the found frame where its call stands. */
         int foundId(Told tellings, int name) {
-            return tellings.idAt(at(routineAt, foundCall), foundCode(), at(placeAt, foundCall), foundFrame, name);
+            return tellings.idAt(foundSource(), foundCode(), at(placeAt, foundCall), foundFrame, name);
         }
 
         int foundValue(Told tellings, int id) {
