@@ -179,7 +179,7 @@ public final class LineKeeper {
             return NONE;
         }
         tellings.refresh(r, code);
-        int id = tellings.idAt(r, code, k, f, name);
+        int id = tellings.idIn(r, tellings.slotAt(code, k, f) + name);
         switch (what) {
             case 0: return tellings.whereOf(code, id);
             case 1: return tellings.part(code, id, A_KIND);
@@ -439,6 +439,15 @@ public final class LineKeeper {
 
         int homeOf(int f, int name) {
             return at(home, f * MAX_NAMES + name);
+        }
+
+        /** The place of a name among all names of all FRAMES; 0 is no name's, so that each code has a place. */
+        int slotOf(int f, int name) {
+            int slot = 1 + name;
+            for (int i = 0; i < f && i < frameNames.length; i++) {
+                slot += frameNames[i];
+            }
+            return slot;
         }
 
         boolean hasName(int f, int name) {
@@ -1343,7 +1352,7 @@ public final class LineKeeper {
         final int[][] tables = new int[MAX_ROUTINES][];
         final int[] fresh = new int[MAX_ROUTINES];
         final int[] bindId = new int[MAX_ITEMS];
-        final int[] state = new int[MAX_FRAMES * MAX_NAMES];
+        final int[] state = new int[1 + MAX_FRAMES * MAX_NAMES];
         int[] table;
         int width;
         boolean changed;
@@ -1352,12 +1361,14 @@ public final class LineKeeper {
             put(fresh, r, 0);
         }
 
+        /** Where the table has what is told of the first name of a FRAME ahead of an ITEM. */
+        int slotAt(Code code, int k, int f) {
+            return code == null ? NONE : k * code.slotOf(code.frames, 0) + code.slotOf(f, 0);
+        }
+
         /** Of a code that was refreshed. */
-        int idAt(int r, Code code, int k, int f, int name) {
-            if (r < 0 || r >= tables.length || code == null) {
-                return NOT_THERE;
-            }
-            int id = at(tables[r], k * code.frames * MAX_NAMES + f * MAX_NAMES + name);
+        int idIn(int r, int slot) {
+            int id = r >= 0 && r < tables.length ? at(tables[r], slot) : 0;
             return id == 0 ? NOT_THERE : id;
         }
 
@@ -1383,13 +1394,13 @@ public final class LineKeeper {
             if (code == null || r < 0 || r >= tables.length || r >= fresh.length || fresh[r] != 0) {
                 return;
             }
-            width = code.frames * MAX_NAMES;
+            width = code.slotOf(code.frames, 0);
             int size = Math.max(0, (code.count + 1) * width);
             if (tables[r] == null || tables[r].length < size) {
-                tables[r] = new int[size + size / 4];
+                tables[r] = new int[size + size / 8];
             }
             table = tables[r];
-            Arrays.fill(table, 0);
+            Arrays.fill(table, 0, size, 0);
             for (int k = 0; k < code.count; k++) {
                 nameBind(code, k);
             }
@@ -1433,11 +1444,10 @@ public final class LineKeeper {
 
         private void begin(Code code) {
             for (int i = 0; i < width; i++) {
-                int id = NOT_THERE;
-                if (i < code.names) {
-                    id = i < code.params ? PARAM_BASE + i : NOUGHT;
-                }
-                put(table, i, id);
+                put(table, i, NOT_THERE);
+            }
+            for (int name = 0; name < code.names; name++) {
+                put(table, code.slotOf(0, name), name < code.params ? PARAM_BASE + name : NOUGHT);
             }
         }
 
@@ -1452,10 +1462,11 @@ public final class LineKeeper {
                 put(state, i, r != NONE && leans(code, id, r) ? WRITTEN_OVER : id);
             }
             if (kind == BIND) {
-                put(state, code.get(k, Y) * MAX_NAMES + code.get(k, X), at(bindId, k));
+                put(state, code.slotOf(code.get(k, Y), code.get(k, X)), at(bindId, k));
             }
-            for (int name = 0; kind == LEAVE && name < MAX_NAMES; name++) {
-                put(state, code.get(k, X) * MAX_NAMES + name, NOT_THERE);
+            int left = code.get(k, X);
+            for (int name = 0; kind == LEAVE && name < at(code.frameNames, left); name++) {
+                put(state, code.slotOf(left, name), NOT_THERE);
             }
             if (code.fallsOn(k)) {
                 comeTo(code, k + 1);
@@ -2339,9 +2350,13 @@ public final class LineKeeper {
             return its == null ? 0 : at(its.frameNames, foundFrame);
         }
 
-        /** What is told of a name of the found frame where its call stands. */
+        /** Where it is told of the first name of the found frame, as its call stands. */
+        int foundSlot(Told tellings) {
+            return tellings.slotAt(foundCode(), at(placeAt, foundCall), foundFrame);
+        }
+
         int foundId(Told tellings, int name) {
-            return tellings.idAt(foundSource(), foundCode(), at(placeAt, foundCall), foundFrame, name);
+            return tellings.idIn(foundSource(), foundSlot(tellings) + name);
         }
 
         int foundValue(Told tellings, int id) {
@@ -2433,9 +2448,13 @@ public final class LineKeeper {
 
         private boolean sameNames(Told tellings) {
             boolean same = true;
-            for (int name = 0; name < torn.foundNames(); name++) {
-                int id = torn.foundId(tellings, name);
-                if (id < Told.NOUGHT || tellings.whereOf(torn.foundCode(), id) >= GONE) {
+            Code code = torn.foundCode();
+            int source = torn.foundSource();
+            int slot = torn.foundSlot(tellings);
+            int names = torn.foundNames();
+            for (int name = 0; name < names; name++) {
+                int id = tellings.idIn(source, slot + name);
+                if (code == null || tellings.whereOf(code, id) >= GONE) {
                     goneNames++;
                 } else {
                     knownNames++;
