@@ -1504,8 +1504,10 @@ public final class LineKeeper {
 
         int fold(Code code) {
             int told = 0;
+            int k = 0;
+            int all = code.count;
             Arrays.fill(knownKind, 0);
-            for (int k = 0; k < code.count; k++) {
+            for (int i = 0; i < all; i++) {
                 int kind = code.get(k, KIND);
                 if (kind == LABEL) {
                     Arrays.fill(knownKind, 0);
@@ -1515,12 +1517,12 @@ public final class LineKeeper {
                     boolean changed = foldOperands(code, k);
                     changed |= foldAct(code, k);
                     told += changed ? 1 : 0;
-                    if (goesOut(code, k)) {
-                        code.removeRow(k);
-                        k--;
-                    } else {
-                        learn(code, k);
-                    }
+                    learn(code, k);
+                }
+                if (goesOut(code, k)) {
+                    code.removeRow(k);
+                } else {
+                    k++;
                 }
             }
             return told;

@@ -18,6 +18,7 @@ public final class EdgeFaceTest {
         readEmpty();
         readMany();
         readAnew();
+        readAgainAndAgain();
         readTakesTheTape();
         faultWhat();
         faultOfTheLatest();
@@ -26,6 +27,7 @@ public final class EdgeFaceTest {
         routineRegisters();
         itemArguments();
         itemKinds();
+        itemsOfChoices();
         itemOfBinds();
         itemOfCalls();
         frameArguments();
@@ -152,6 +154,34 @@ public final class EdgeFaceTest {
             List.of(-1, -1, -1, -1, 0));
         due("Promise 18: the plain run of the new text", List.of(x.beside(0, 1, 0, 0, 0, 50), x.compared(2)),
             List.of(2, 1));
+    }
+
+    /** Nothing of an earlier text, nor of one with a FAULT, stands in the code of a later one. */
+    private static void readAgainAndAgain() {
+        String[] texts = {"f(a,b,c,d){x=f(1,2,3,4);y=a*b;}g(a){while a{a=a-1;}}", "f(){}g(){}", "f(a,b,c,d){x=1;out y+z",
+            "f(a){if a{}else{}x=g();}g(){out 1;}", "f(a,b,c,d){}f(){}", "f(){out 1+2;x=g(3);}g(p){return p;}", TEXT, "f(){}"};
+        LineKeeper x = new LineKeeper();
+        for (String text : texts) {
+            LineKeeper y = new LineKeeper();
+            Check.tape(x, text);
+            Check.tape(y, text);
+            int got = x.read();
+            due("Promise 4: again and again " + text, got, y.read());
+            for (int r = 0; r < got; r++) {
+                due("Promise 4: the code of " + text, wholes(x, r), wholes(y, r));
+            }
+        }
+    }
+
+    private static List<Integer> wholes(LineKeeper x, int r) {
+        List<Integer> list = new ArrayList<>();
+        for (int what = 0; what < 20; what++) {
+            list.add(x.routine(r, what));
+        }
+        for (int k = 0; k < x.routine(r, 0); k++) {
+            list.addAll(whole(x, r, k));
+        }
+        return list;
     }
 
     private static void readTakesTheTape() {
@@ -302,11 +332,29 @@ public final class EdgeFaceTest {
         due("Promise 7: LEAVE", whole(x, 1, 11), List.of(15, 1, 0, 0, 0, 0, 0, 0));
     }
 
+    private static void itemsOfChoices() {
+        LineKeeper x = Check.keeper("f(a){if a{}else{}if a{}}");
+        int[][] whole = {
+            {11, 1, 0, 0, 0, 0, 0, 0}, {9, 0, 0, 2, 0, 0, 0, 0}, {8, 1, 0, 0, 0, 0, 0, 0}, {13, 0, 0, 0, 0, 0, 0, 0},
+            {13, 1, 0, 0, 0, 0, 0, 0}, {11, 2, 0, 0, 0, 0, 0, 0}, {9, 2, 0, 2, 0, 0, 0, 0}, {13, 2, 0, 0, 0, 0, 0, 0},
+            {7, 0, 0, 1, 0, 0, 0, 0}};
+        for (int k = 0; k < whole.length; k++) {
+            List<Integer> want = new ArrayList<>();
+            for (int one : whole[k]) {
+                want.add(one);
+            }
+            due("Promise 7: each what of ITEM " + k + " of choices", whole(x, 0, k), want);
+        }
+    }
+
     private static void itemOfCalls() {
         LineKeeper x = Check.keeper("f(){x=f();y=g(7);z=h(8,z,9);}g(a){}h(a,b,c){}");
         due("Promise 7: CALL without E", whole(x, 0, 1), List.of(10, 0, 0, 0, 0, 0, 0, 0));
         due("Promise 7: CALL of one", whole(x, 0, 4), List.of(10, 1, 1, 1, 0, 7, 0, 0));
         due("Promise 7: CALL of three, its first two", whole(x, 0, 7), List.of(10, 2, 2, 1, 2, 8, 2, 0));
+        x = Check.keeper("h(a,b,c){}f(){z=h(8,z,9);y=g(7);x=f();}g(a){}");
+        due("Promise 7: CALL of one behind that", whole(x, 1, 4), List.of(10, 1, 2, 1, 0, 7, 0, 0));
+        due("Promise 7: CALL without E behind that", whole(x, 1, 7), List.of(10, 2, 1, 0, 0, 0, 0, 0));
     }
 
     private static void frameArguments() {

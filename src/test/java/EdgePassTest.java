@@ -11,10 +11,14 @@ public final class EdgePassTest {
         foldBinds();
         foldJumps();
         foldCalls();
+        foldFive();
+        foldKeepsKnowing();
         dropReach();
         dropReads();
         dropNear();
         dropRings();
+        dropMoved();
+        manyRegisters();
         moveRings();
         moveConditions();
         moveInner();
@@ -22,15 +26,19 @@ public final class EdgePassTest {
         alikeItself();
         meltActs();
         meltItems();
+        meltItemsOfNoughts();
         meltRegisters();
         meltFrames();
         meltWhich();
         meltNumbers();
         meltNoughts();
+        meltOperands();
         meltWithoutReturn();
         shareNumbers();
         shareBinds();
         shareAtTheBeginning();
+        shareByJumps();
+        shareConsts();
         Check.finish();
     }
 
@@ -171,6 +179,38 @@ public final class EdgePassTest {
         Check.due("Term 3: FOLD: DROP found b to d read by none", x.routine(1, 1), 3);
     }
 
+    /** Each of the five, of two CONSTS and of one. */
+    private static void foldFive() {
+        String[] signs = {"+", "-", "*", "=", "<"};
+        int[] give = {9, -5, 14, 0, 1};
+        String[] acts = {"PLUS", "MINUS", "TIMES", "EQUAL", "LESS"};
+        for (int i = 0; i < signs.length; i++) {
+            LineKeeper x = Check.keeper("f(a){out 2" + signs[i] + "7;out 2" + signs[i] + "a;out a" + signs[i] + "2;}");
+            told("FOLD: of two CONSTS, and the OUT behind it", x.pass(0, 0), 2);
+            Check.due("Term 3: FOLD: of two CONSTS alone " + signs[i], List.of(Check.item(x, 0, 1), Check.item(x, 0, 2),
+                Check.item(x, 0, 4), Check.item(x, 0, 7)), List.of("COPY r1 " + give[i], "OUT " + give[i],
+                acts[i] + " r2 2 r0", acts[i] + " r3 r0 2"));
+            Check.due("Promise 7: a COPY has no b", List.of(x.item(0, 1, 3), x.item(0, 1, 4), x.item(0, 1, 5),
+                x.item(0, 1, 6), x.item(0, 1, 7)), List.of(1, 0, give[i], 0, 0));
+        }
+    }
+
+    private static void foldKeepsKnowing() {
+        LineKeeper x = Check.keeper("f(a,b){x=a;y=0;b=1;out x;out y;}");
+        told("FOLD: what others write changes nothing", x.pass(0, 0), 2);
+        Check.due("Term 3: FOLD: REG and CONST are still known", List.of(Check.item(x, 0, 10), Check.item(x, 0, 12)),
+            List.of("OUT r0", "OUT 0"));
+        x = Check.keeper("f(a){y=0;a=1;out y;}");
+        x.pass(0, 0);
+        Check.due("Term 3: FOLD: CONST 0 is not REG 0", Check.item(x, 0, 7), "OUT 0");
+        x = Check.keeper("f(){x=5;if 1{}out x;}");
+        told("FOLD: a LABEL right behind a ZERO that went out", x.pass(0, 0), 1);
+        Check.due("Term 3: FOLD: nothing is known behind it", Check.item(x, 0, 6), "OUT r0");
+        x = Check.keeper("f(){x=5;}g(){out x;}");
+        x.pass(0, 0);
+        told("FOLD: what another routine knew", x.pass(0, 1), 0);
+    }
+
     private static void dropReach() {
         LineKeeper x = Check.keeper("f(a){if a{return 1;out 2;}else{return 3;}out 4;}");
         told("DROP of what can't be reached: JUMP, OUT 2, OUT 4, RETURN 0", x.pass(1, 0), 4);
@@ -233,6 +273,8 @@ public final class EdgePassTest {
         x.pass(1, 0);
         code("DROP: a SUM is not of REG r", x, 0, "LINE 1 in 0", "BIND 0.1 r0", "LINE 2 in 0", "BIND 0.2 GONE2",
             "LINE 3 in 0", "OUT 2", "RETURN 0");
+        Check.due("Promise 7: a BIND that is GONE has neither a nor b", List.of(x.item(0, 3, 3), x.item(0, 3, 4),
+            x.item(0, 3, 5), x.item(0, 3, 6), x.item(0, 3, 7)), List.of(0, 0, 0, 0, 12));
         x = Check.keeper("f(a){a=a;out 1;b=a;}");
         told("DROP: COPY of itself, read by none", x.pass(1, 0), 2);
         code("DROP: BIND of it becomes REG, as a is", x, 0, "LINE 1 in 0", "BIND 0.0 r0", "LINE 2 in 0", "OUT 1",
@@ -252,6 +294,35 @@ public final class EdgePassTest {
         told("DROP: read in the next turn", x.pass(1, 0), 0);
     }
 
+    private static void dropMoved() {
+        LineKeeper x = Check.keeper("f(a,b){while a{x=b*b;a=a-1;}}");
+        x.pass(2, 0);
+        Check.due("Term 3: DROP: ahead of it", Check.item(x, 0, 0), "TIMES r3 r1 r1");
+        told("DROP: ITEM 0, too", x.pass(1, 0), 2);
+        code("DROP: its BIND stands far behind", x, 0, "LABEL L0", "LINE 1 in 0", "ZERO r0 L1", "LINE 2 in 0",
+            "BIND 0.2 GONE2", "LINE 3 in 0", "MINUS r4 r0 1", "COPY r0 r4", "BIND 0.0 r0", "JUMP L0", "LABEL L1", "RETURN 0");
+    }
+
+    /** A sum of all twelve names, then of a CONST, up to the 120 ITEMS: 129 REGISTERS. */
+    private static void manyRegisters() {
+        String sum = "a+b+c+d+e+g+h+i+j+k+l+m" + "+1".repeat(106);
+        LineKeeper x = Check.keeper("f(a,b,c,d){out " + sum + ";}");
+        Check.due("Term 3: as many REGISTERS as can be", List.of(x.routine(0, 0), x.routine(0, 4)), List.of(120, 129));
+        told("DROP: all are read", x.pass(1, 0), 0);
+        told("MOVE: none within a LOOP", x.pass(2, 0), 0);
+        Check.due("Term 3: SHARE: twelve live at the beginning", List.of(x.pass(5, 0), x.routine(0, 4)), List.of(12, 12));
+        x.start(0, 1, 2, 3, 4);
+        Check.due("Term 3: SHARE: the sum is the same", List.of(x.go(2, 200), x.printed(0)), List.of(0, 116));
+        x = Check.keeper("f(a,b,c,d){m=" + "a+b+c+d+e+g+h+i+j+k+l+m" + "+1".repeat(105) + ";}");
+        Check.due("Term 3: DROP: none is read", List.of(x.routine(0, 0), x.pass(1, 0), x.routine(0, 0)),
+            List.of(120, 117, 3));
+        code("DROP: the last act of it is told", x, 0, "LINE 1 in 0", "BIND 0.4 GONE2", "RETURN 0");
+        // LABEL, LINE, ZERO, LINE, 112 sums, OUT, JUMP, LABEL, RETURN.
+        x = Check.keeper("f(a){while a{out 1" + "+1".repeat(112) + ";}}");
+        Check.due("Term 3: MOVE: all sums of a ring", List.of(x.routine(0, 0), x.pass(2, 0), x.item(0, 112, 0)),
+            List.of(120, 112, 13));
+    }
+
     private static void moveRings() {
         LineKeeper x = Check.keeper("f(a,b){if a{out b*b;}else{out b+b;}}");
         told("MOVE: no JUMP goes back, no LOOP", x.pass(2, 0), 0);
@@ -263,6 +334,11 @@ public final class EdgePassTest {
             "LABEL L1", "RETURN 0");
         x = Check.keeper("f(a){while 1{out 1;return a*a;}}");
         told("MOVE: what stands behind RETURN within", x.pass(2, 0), 1);
+        x = Check.keeper("f(a){while 1{out a*a;}}");
+        x.pass(0, 0);
+        x.pass(1, 0);
+        Check.due("Term 3: MOVE: the JUMP is the last ITEM", List.of(x.item(0, x.routine(0, 0) - 1, 0), x.pass(2, 0)),
+            List.of(8, 1));
     }
 
     private static void moveConditions() {
@@ -325,6 +401,16 @@ public final class EdgePassTest {
         LineKeeper x = Check.keeper("f(a,b){out a+b;a=1;out a+b;out a+b;}");
         told("ALIKE: as the later one", x.pass(3, 0), 1);
         Check.due("Term 3: ALIKE: COPY of the r of the later one", Check.item(x, 0, 10), "COPY r4 r3");
+        x = Check.keeper("f(a,b){out (a<b)*(a<b);}");
+        told("ALIKE: right behind one another", x.pass(3, 0), 1);
+        Check.due("Term 3: ALIKE: COPY of it", Check.item(x, 0, 2), "COPY r3 r2");
+        x = Check.keeper("f(a){out 3-4;out 3-4;}");
+        x.pass(3, 0);
+        Check.due("Term 3: ALIKE: COPY of REG, though both were CONSTS", Check.item(x, 0, 4), "COPY r2 r1");
+        Check.due("Promise 7: it has no b then", List.of(x.item(0, 4, 4), x.item(0, 4, 6)), List.of(0, 0));
+        x = Check.keeper("f(a,b){while a{out b*b;out b*b;}}");
+        Check.due("Term 3: ALIKE: as ITEM 0", List.of(x.pass(2, 0), x.pass(3, 0), Check.item(x, 0, 0), Check.item(x, 0, 1)),
+            List.of(2, 1, "TIMES r2 r1 r1", "COPY r3 r2"));
         x = Check.keeper("f(a,b){out a+b+1;out a+b+1;}");
         x.pass(3, 0);
         x.pass(0, 0);
@@ -379,6 +465,22 @@ public final class EdgePassTest {
         x = Check.keeper(g + "i(){}f(){" + "x=g();".repeat(5) + "x=i();x=g();x=i();}");
         Check.due("Term 3: MELT goes on behind a CALL that it leaves",
             List.of(x.routine(2, 0), x.pass(4, 2), x.routine(2, 0), x.routine(2, 5)), List.of(25, 6, 193, 7));
+    }
+
+    /** COPIES of 0 to what lives at the beginning are ITEMS, too. */
+    private static void meltItemsOfNoughts() {
+        String g = "g(){" + "out 1;".repeat(12) + "out a+b+c+d+e+h+i;}";
+        LineKeeper x = Check.keeper(g + "f(){" + "x=g();".repeat(3) + "out 1" + "+1".repeat(19) + ";}");
+        Check.due("Term 3: MELT: g", List.of(x.routine(0, 0), x.routine(0, 1)), List.of(33, 20));
+        // 33 ITEMS, 7 BINDs, 7 COPIES of 0, ENTER, LABEL, LEAVE and JUMP of RETURN: 51 in place of CALL.
+        Check.due("Term 3: MELT: each of them", List.of(x.routine(1, 0), x.pass(4, 1), x.routine(1, 0)),
+            List.of(31, 3, 181));
+        x = Check.keeper(g + "f(){" + "x=g();".repeat(3) + "out 1" + "+1".repeat(38) + ";}");
+        Check.due("Term 3: MELT up to 200 ITEMS, with COPIES of 0", List.of(x.routine(1, 0), x.pass(4, 1), x.routine(1, 0)),
+            List.of(50, 3, 200));
+        x = Check.keeper(g + "f(){" + "x=g();".repeat(3) + "out 1" + "+1".repeat(39) + ";}");
+        Check.due("Term 3: MELT not 201, with COPIES of 0", List.of(x.routine(1, 0), x.pass(4, 1), x.routine(1, 0)),
+            List.of(51, 2, 151));
     }
 
     private static void meltRegisters() {
@@ -460,6 +562,21 @@ public final class EdgePassTest {
         Check.due("Term 3: MELT: none lives but a parameter", Check.item(x, 1, 5), "LINE 1 in 1");
     }
 
+    private static void meltOperands() {
+        LineKeeper x = Check.keeper("g(p,q,r,s){out p-s;return q<3;}f(a,b){x=g(a,1,b,2);}");
+        x.pass(4, 1);
+        code("MELT: COPY of each E, a and b of each ACT", x, 1, "LINE 3 in 0", "ENTER 1", "COPY r3 r0", "BIND 1.0 r3",
+            "COPY r4 1", "BIND 1.1 r4", "COPY r5 r1", "BIND 1.2 r5", "COPY r6 2", "BIND 1.3 r6", "LINE 1 in 1",
+            "MINUS r7 r3 r6", "OUT r7", "LINE 2 in 1", "LESS r8 r4 3", "COPY r2 r8", "JUMP L0", "COPY r2 0", "JUMP L0",
+            "LABEL L0", "LEAVE 1", "BIND 0.2 r2", "RETURN 0");
+        for (int k = 0; k < x.routine(1, 0); k++) {
+            int kind = x.item(1, k, 0);
+            Check.due("Promise 7: LINE and BIND alone have a FRAME, ITEM " + k, x.item(1, k, 2),
+                (kind == 11 || kind == 12) && k > 0 && k < 21 ? 1 : 0);
+            Check.due("Promise 7: BIND alone has a WHERE, ITEM " + k, x.item(1, k, 7) > 0, kind == 12);
+        }
+    }
+
     private static void meltWithoutReturn() {
         LineKeeper x = Check.keeper("g(){while 1{}}f(){x=g();out x;}");
         x.pass(0, 0);
@@ -480,6 +597,7 @@ public final class EdgePassTest {
         told("SHARE: a parameter, the other one lives there", Check.keeper("f(a){out b;}").pass(5, 0), 2);
         told("SHARE: a parameter, the other one lives not there", Check.keeper("f(a){b=1;out b;}").pass(5, 0), 1);
         told("SHARE: it lives behind what writes the other", Check.keeper("f(a){b=1;out b;out a;}").pass(5, 0), 2);
+        told("SHARE: what is written has the lesser number", Check.keeper("f(a){out a;b=3;a=4;out b;out a;}").pass(5, 0), 2);
         told("SHARE: it lives no more behind what reads it", Check.keeper("f(a){b=a;out b;}").pass(5, 0), 1);
         told("SHARE: what is written and lives nowhere", Check.keeper("f(a){b=1;out a;}").pass(5, 0), 2);
         LineKeeper x = Check.keeper("f(a,b,c,d){out a;x=b;out c+d+x;y=1;out y;}");
@@ -537,5 +655,38 @@ public final class EdgePassTest {
         x.pass(1, 0);
         x.pass(5, 0);
         Check.due("Term 3: SHARE: a parameter, though it lives nowhere", Check.item(x, 0, 1), "BIND 0.1 r0");
+    }
+
+    private static void shareByJumps() {
+        LineKeeper x = Check.keeper("f(a,d){if d{out d;}else{b=2;out b;}c=a;out 1;}");
+        x.pass(1, 0);
+        Check.due("Term 3: SHARE: c as a, behind else", Check.item(x, 0, 13), "BIND 0.3 r0");
+        x.pass(5, 0);
+        Check.due("Term 3: SHARE: lost by the way of else", Check.item(x, 0, 13), "BIND 0.3 GONE3");
+        Check.due("Promise 7: it has neither a nor b then", List.of(x.item(0, 13, 3), x.item(0, 13, 5), x.item(0, 13, 7)),
+            List.of(0, 0, 13));
+        x = Check.keeper("f(a,d){if d{b=2;out b;}else{out d;}c=a;out 1;}");
+        x.pass(1, 0);
+        x.pass(5, 0);
+        Check.due("Term 3: SHARE: lost by the way of a JUMP", Check.item(x, 0, 13), "BIND 0.3 GONE3");
+        x = Check.keeper("f(a,d){while d{c=a;out 1;b=2;out b;d=d-1;}}");
+        x.pass(1, 0);
+        Check.due("Term 3: SHARE: c as a, in a ring", Check.item(x, 0, 4), "BIND 0.2 r0");
+        x.pass(5, 0);
+        Check.due("Term 3: SHARE: lost by the way back", Check.item(x, 0, 4), "BIND 0.2 GONE3");
+        x = Check.keeper("f(a,b){while a{out b*b;a=a-1;}}");
+        x.pass(2, 0);
+        told("SHARE: ITEM 0 writes, too", x.pass(5, 0), 2);
+        Check.due("Term 3: SHARE: by its new number", Check.item(x, 0, 0), "TIMES r1 r1 r1");
+    }
+
+    private static void shareConsts() {
+        LineKeeper x = Check.keeper("f(a,b){x=1;out x;y=3;out y;z=a*3;out b;}");
+        x.pass(0, 0);
+        x.pass(1, 0);
+        x.pass(5, 0);
+        Check.due("Term 3: SHARE: a CONST is no REGISTER", List.of(Check.item(x, 0, 1), Check.item(x, 0, 5)),
+            List.of("BIND 0.2 1", "BIND 0.3 3"));
+        Check.due("Term 3: SHARE: nor is that of a SUM", Check.item(x, 0, 9), "BIND 0.4 TIMES r0 3");
     }
 }

@@ -15,6 +15,7 @@ public final class EdgeRunTest {
         callsOneAfterAnother();
         registersOfTheirOwn();
         startsAnew();
+        startsAnewWithin();
         parameters();
         goArguments();
         goCounts();
@@ -31,6 +32,7 @@ public final class EdgeRunTest {
         knownBehindCalls();
         knownWhys();
         valuesNotTold();
+        namesBeyondAFrame();
         runArguments();
         printedEdges();
         besideArguments();
@@ -134,6 +136,25 @@ public final class EdgeRunTest {
         x.go(0, 20);
         due("Promise 11: behind one that goes", List.of(x.start(0, 6, 0, 0, 0), run(x), x.value(0, 0)),
             List.of(true, List.of(0, 0, 0, 0, 1, 0), 6));
+    }
+
+    private static void startsAnewWithin() {
+        LineKeeper x = Check.keeper("g(p){out p;}f(a){x=g(a);}");
+        x.pass(4, 1);
+        x.start(1, 3, 0, 0, 0);
+        x.go(0, 9);
+        x.go(0, 9);
+        due("Promise 11: it stood in a FRAME", List.of(x.run(4), x.stack(0, 0)), List.of(2, 0));
+        due("Promise 11: the new one stands in FRAME 0", List.of(x.start(1, 4, 0, 0, 0), x.run(4), x.stack(0, 0), x.stack(0, 1),
+            x.stack(1, 0), x.value(0, 0)), List.of(true, 1, 1, 0, -1, 4));
+        due("Promise 11: and goes", List.of(x.go(0, 9), x.go(0, 9), x.go(2, 9), prints(x)), List.of(1, 1, 0, List.of(4)));
+        // The innermost of eight calls writes a name; in the next run it is nought there again.
+        x = Check.keeper("f(a){out b;b=a+5;if a{c=f(a-1);}}");
+        for (int i = 0; i < 2; i++) {
+            x.start(0, 8, 0, 0, 0);
+            x.go(2, 20000);
+            due("Promise 11: names of all calls are nought again", prints(x), List.of(0, 0, 0, 0, 0, 0, 0, 0, 0));
+        }
     }
 
     private static void parameters() {
@@ -389,6 +410,19 @@ public final class EdgeRunTest {
         due("Promise 15: 0 where it is not told", List.of(x.known(0, 2), x.value(0, 2)), List.of(12, 0));
     }
 
+    /** Names are numbered by frames: the one beyond a frame's last is none, though another frame has names. */
+    private static void namesBeyondAFrame() {
+        LineKeeper x = Check.keeper("g(p){out p;}f(a){x=g(a);}");
+        x.pass(4, 1);
+        x.start(1, 3, 0, 0, 0);
+        x.go(0, 9);
+        x.go(0, 9);
+        due("Promise 14: the last name of each frame", List.of(x.known(0, 0), x.known(1, 1), x.value(0, 0), x.value(1, 0)),
+            List.of(1, 1, 3, 3));
+        due("Promise 14: none beyond them", List.of(x.known(0, 1), x.known(1, 2), x.value(0, 1), x.value(1, 2)),
+            List.of(-1, -1, 0, 0));
+    }
+
     private static void runArguments() {
         LineKeeper x = Check.keeper("f(a){out a;return 5;}");
         due("Promise 16: there was no run", run(x), List.of(-1, -1, -1, -1, -1, -1));
@@ -482,6 +516,9 @@ public final class EdgeRunTest {
         due("Promise 19: told, GONE, the end", List.of(x.compared(0), x.compared(1), x.compared(2)), List.of(8, 1, 1));
         x.beside(0, 0, 0, 0, 0, 50);
         due("Promise 19: of the latest", List.of(x.compared(0), x.compared(1), x.compared(2)), List.of(5, 1, 1));
+        due("Promise 19: not to the end this time", List.of(x.beside(0, 1, 0, 0, 0, 1), x.compared(0), x.compared(2)),
+            List.of(1, 3, 0));
+        x.beside(0, 0, 0, 0, 0, 50);
         due("Promise 19: another what", List.of(x.compared(3), x.compared(-1), x.compared(MAX), x.compared(MIN)),
             List.of(-1, -1, -1, -1));
         x.beside(0, 0, 0, 0, 0, 0);

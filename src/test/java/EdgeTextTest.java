@@ -310,6 +310,12 @@ public final class EdgeTextTest {
         bad("4 none of one", 4, "f(a){x=^f();}");
         good("4 one of one", "f(a){x=f(1);}");
         bad("4 two of one", 4, "f(a){x=^f(1,2);}");
+        bad("a row of E ends with an E", 1, "f(a){x=f(1,^);}");
+        bad("a row of E begins with an E", 1, "f(a){x=f(^,1);}");
+        bad("a row of E has an E between", 1, "f(a,b){x=f(1,^,1);}");
+        bad("a row of NAMES ends with a NAME", 1, "f(a,^){}");
+        bad("a row of NAMES begins with a NAME", 1, "f(^,a){}");
+        bad("a row of NAMES has a NAME between", 1, "f(a,^,b){}");
         bad("4 of a later routine", 4, "f(a){x=^g(1);}g(){}");
         bad("4 the first", 4, "f(a){x=f(1);x= ^f(1,1);x=f();}");
     }

@@ -22,6 +22,7 @@ public final class EdgeToldTest {
         behindTheLast();
         framesComeAndGo();
         framesInRings();
+        toldAnew();
         Check.finish();
     }
 
@@ -271,5 +272,25 @@ public final class EdgeToldTest {
         }
         Check.due("Term 2: the FRAME that is left alone goes", List.of(Check.told(x, 2, leave, 2, 0).charAt(0),
             Check.told(x, 2, leave + 1, 2, 0), Check.told(x, 2, leave + 1, 1, 0).charAt(0)), List.of('r', "GONE1", 'r'));
+    }
+
+    /** What was told of a code is not what is told of the next one. */
+    private static void toldAnew() {
+        LineKeeper x = Check.keeper("f(a){x=1;x=a;out x;}");
+        told("asked ahead of a PASS", x, 0, 0, 1, "0", "0", "0", "r1", "r1", "GONE3", "r1", "r1", "r1", "GONE1");
+        x.pass(1, 0);
+        told("asked behind DROP", x, 0, 0, 1, "0", "0", "1", "1", "1", "r1", "r1", "r1", "GONE1");
+        x.pass(0, 0);
+        told("asked behind FOLD", x, 0, 0, 1, "0", "0", "1", "1", "1", "r1", "r1", "r1", "GONE1");
+        x.start(0, 6, 0, 0, 0);
+        x.go(2, 2);
+        Check.due("Promise 14: as it is told now", List.of(x.known(0, 1), x.value(0, 1)), List.of(1, 1));
+        Check.tape(x, "f(a){out a;x=a;}");
+        x.read();
+        told("asked behind a read", x, 0, 0, 1, "0", "0", "0", "0", "0", "r1", "GONE1");
+        Check.tape(x, "f(){return 3;while 1{x=2;}}");
+        x.read();
+        told("asked behind a read of what can't be reached", x, 0, 0, 0, "0", "0", "GONE1", "GONE1", "GONE1", "GONE1", "GONE1",
+            "GONE1", "GONE1", "GONE1", "GONE1", "GONE1");
     }
 }
