@@ -2436,14 +2436,13 @@ public final class LineKeeper {
             return torn.prints == plain.prints && torn.lastPrint == plain.lastPrint;
         }
 
+        /** Names are counted in all frames, also where something differs. */
         private boolean sameStack(Told tellings) {
-            if (torn.depth != plain.depth) {
-                return false;
-            }
-            boolean same = true;
-            for (int k = 0; k < torn.depth && same; k++) {
-                same = torn.find(k) && plain.find(k) && torn.foundRoutine() == plain.foundRoutine()
-                    && torn.foundLine() == plain.foundLine() && sameNames(tellings);
+            boolean same = torn.depth == plain.depth;
+            for (int k = 0; k < torn.depth; k++) {
+                same &= torn.find(k) && plain.find(k) && torn.foundRoutine() == plain.foundRoutine()
+                    && torn.foundLine() == plain.foundLine();
+                same &= sameNames(tellings);
             }
             return same;
         }

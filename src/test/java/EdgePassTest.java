@@ -557,6 +557,11 @@ public final class EdgePassTest {
         x = Check.keeper("g(p){if p{s=1;}out s;}f(){x=g(1);}");
         x.pass(4, 1);
         Check.due("Term 3: MELT: it lives by one way", Check.item(x, 1, 5), "COPY r2 0");
+        x = Check.keeper("g(p){while p{out s*2;p=p-1;}}f(){x=g(1);}");
+        x.pass(2, 0);
+        x.pass(4, 1);
+        Check.due("Term 3: MELT: it is read by ITEM 0", List.of(Check.item(x, 0, 0), Check.item(x, 1, 5),
+            Check.item(x, 1, 6)), List.of("TIMES r2 r1 2", "COPY r2 0", "TIMES r3 r2 2"));
         x = Check.keeper("g(p){s=1;out s;out p;}f(){x=g(1);}");
         x.pass(4, 1);
         Check.due("Term 3: MELT: none lives but a parameter", Check.item(x, 1, 5), "LINE 1 in 1");

@@ -38,6 +38,7 @@ public final class EdgeRunTest {
         besideArguments();
         besideCounts();
         besideStays();
+        besideUnlike();
         comparedEdges();
         Check.finish();
     }
@@ -505,6 +506,30 @@ public final class EdgeRunTest {
         due("Promise 18: a run that there is stays", List.of(run(x), x.printed(0), x.value(0, 0), x.value(1, 0)),
             List.of(before, 3, 2, 3));
         due("Promise 18: and goes on", List.of(x.go(2, 20000), x.go(2, 20000), x.run(3)), List.of(1, 0, 3));
+    }
+
+    /**
+     * MELT makes REGISTERS 0 that live at the beginning, and BIND reads nothing: c is told as REG of e, which has 1 of
+     * the last turn, though e is nought in each call.
+     */
+    private static void besideUnlike() {
+        LineKeeper x = Check.keeper("g(a){c=e;out a;e=1;out e;}f(n){while n{x=g(n);n=n-1;}}");
+        x.pass(1, 0);
+        due("Promise 18: a call has REGISTERS of its own", List.of(x.beside(1, 3, 0, 0, 0, 500), x.compared(2)),
+            List.of(22, 1));
+        x.pass(4, 1);
+        due("Promise 18: one turn is alike", List.of(x.beside(1, 1, 0, 0, 0, 500), x.compared(2)), List.of(8, 1));
+        // LINES 5 6 1 2 3 4 7, then 5 6 1, and at 2 it is not so.
+        due("Promise 18: -2 less how many were, if something was not", x.beside(1, 3, 0, 0, 0, 500), -2 - 10);
+        // Told 1 1 4 4 4 3 2 and 1 1 4 and 4, GONE 1 1 1 1 1 2 0 and 1 1 1 and 1.
+        due("Promise 19: in all frames at all LINES, that one too", List.of(x.compared(0), x.compared(1), x.compared(2)),
+            List.of(29, 11, 0));
+        // A turn has 28 ITEMS, and the LINE at which it is not so is the 12th of the second one.
+        due("Promise 18: by fewer ITEMS it does not come there", List.of(x.beside(1, 3, 0, 0, 0, 39), x.compared(0),
+            x.compared(1)), List.of(10, 25, 10));
+        due("Promise 18: by one more it does", x.beside(1, 3, 0, 0, 0, 40), -12);
+        x.pass(5, 1);
+        due("Promise 18: SHARE makes c GONE", List.of(x.beside(1, 3, 0, 0, 0, 500), x.compared(2)), List.of(22, 1));
     }
 
     private static void comparedEdges() {

@@ -94,6 +94,53 @@ final class Text {
         }
     }
 
+    /** A routine that is called in a ring that ends, so that what one turn leaves is there in the next one. */
+    static Text turns(Random random) {
+        Text text = new Text(random);
+        text.inventTurns();
+        return text;
+    }
+
+    private void inventTurns() {
+        pool = Arrays.asList("a", "b", "c", "d").subList(0, 2 + random.nextInt(3));
+        layered = true;
+        for (int r = 0; r < 2; r++) {
+            Routine routine = new Routine();
+            routine.name = r == 0 ? "g" : "f";
+            routine.params = r == 0 ? random.nextInt(2) : 1;
+            routine.names.addAll(List.of(r == 0 ? "a" : "n").subList(0, routine.params));
+            routines.add(routine);
+        }
+        routines.get(0).block = block(random.nextInt(4) == 0 ? 5 : 6, 2 + random.nextInt(6));
+        inventing = 1;
+        Statement ring = new Statement();
+        ring.kind = 'w';
+        ring.es.add(nameOf("n"));
+        statements++;
+        ring.block = block(6, 1 + random.nextInt(3));
+        Statement less = new Statement();
+        less.kind = '=';
+        less.name = "n";
+        E one = new E();
+        one.op = '#';
+        one.number = 1;
+        E minus = new E();
+        minus.op = '-';
+        minus.left = nameOf("n");
+        minus.right = one;
+        less.es.add(minus);
+        ring.block.add(less);
+        routines.get(1).block = new ArrayList<>(List.of(ring));
+        numberLines();
+    }
+
+    private static E nameOf(String name) {
+        E e = new E();
+        e.op = 'n';
+        e.name = name;
+        return e;
+    }
+
     /** How many ( stand open at most. */
     private static int deepest(String text) {
         int depth = 0;
