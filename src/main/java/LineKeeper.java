@@ -1691,7 +1691,6 @@ public final class LineKeeper {
         }
 
         int drop(Code code) {
-            code.link();
             int told = dropUnreached(code);
             code.link();
             for (int i = 0; i < MAX_ITEMS; i++) {
@@ -1778,6 +1777,7 @@ public final class LineKeeper {
             this.flow = flow;
         }
 
+        /** What is melted in has no CALL, so that going on within it finds none. */
         int melt(Code[] codes, int routines, int r, Code code) {
             host = code;
             int told = 0;
@@ -1787,7 +1787,6 @@ public final class LineKeeper {
                     guest = codes[other];
                     if (isSmall() && meltAt(k)) {
                         told++;
-                        k = row - 1;
                     }
                 }
             }
@@ -1804,7 +1803,6 @@ public final class LineKeeper {
         }
 
         private boolean meltAt(int k) {
-            guest.link();
             flow.findLiving(guest);
             registerBase = host.registers();
             labelBase = host.greatestLabel() + 1;
@@ -1958,7 +1956,6 @@ public final class LineKeeper {
         }
 
         int share(Code code) {
-            code.link();
             flow.findLiving(code);
             int n = Math.min(code.registers(), MAX_REGISTERS);
             findFirst(code);

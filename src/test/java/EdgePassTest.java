@@ -679,6 +679,13 @@ public final class EdgePassTest {
         Check.due("Term 3: SHARE: c as a, in a ring", Check.item(x, 0, 4), "BIND 0.2 r0");
         x.pass(5, 0);
         Check.due("Term 3: SHARE: lost by the way back", Check.item(x, 0, 4), "BIND 0.2 GONE3");
+        // What the inner ring writes comes to the inner LABEL, from there to the outer one, and so to the BIND ahead of it.
+        x = Check.keeper("f(a,d,e){while d{c=a;out 1;while e{b=2;out b;e=f(0,0,0);}d=f(0,0,0);}}");
+        x.pass(1, 0);
+        Check.due("Term 3: SHARE: c as a, ahead of a ring in a ring", Check.item(x, 0, 4), "BIND 0.3 r0");
+        x.pass(5, 0);
+        Check.due("Term 3: SHARE: lost by the way back of the inner, then of the outer", List.of(Check.item(x, 0, 4),
+            x.routine(0, 7), x.routine(0, 11)), List.of("BIND 0.3 GONE3", 0, 0));
         x = Check.keeper("f(a,b){while a{out b*b;a=a-1;}}");
         x.pass(2, 0);
         told("SHARE: ITEM 0 writes, too", x.pass(5, 0), 2);
